@@ -402,7 +402,8 @@ public final class ApologyUp {
             return NONE;
         }
         dream.copy(now.world);
-        for (int i = 0; i < n && dream.day < LAST_DAY; i++) {
+        // What is done with stays as it is, whatever else goes on.
+        for (int i = 0; i < n && dream.day < LAST_DAY && dream.how[apology] != DONE; i++) {
             clerk.pass(dream, now.law());
         }
         switch (what) {

@@ -401,6 +401,13 @@ public final class PromiseTest {
         due("13 those that can pass do", late.played(0), 2);
         due("18", late.is(0), 9999);
         due("13", late.played(0), 1);
+        ApologyUp just = new ApologyUp();
+        for (int i = 0; i < 166; i++) {
+            just.day(60);
+        }
+        Checks.read(just, "day 39;");
+        due("13 just 9999", just.played(0), NONE);
+        due("18", just.is(0), 9999);
     }
 
     private static void years() {
@@ -791,9 +798,11 @@ public final class PromiseTest {
         up.away(1, 9);
         up.day(5);
         up.pile(NONE);
+        up.pile(5);
         up.weigh(0, 1);
         up.owes(0, 0, 0);
         up.added(NONE, 0);
+        up.added(2, 8);
         due("46", up.back(), 1);
         due("46 officers", up.about(0), 3);
         due("46 texts", up.about(1), 1);

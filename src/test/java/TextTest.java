@@ -59,6 +59,12 @@ public final class TextTest {
         fault("adds 1;\u00ff", 1, 7);
         fault("Adds 1;", 1, 0);
         fault("addsx 1;", 1, 0);
+        for (String letter : new String[] {"a", "z", "A", "Z"}) {
+            fault("adds" + letter + " 1;", 1, 0);
+        }
+        for (String sign : new String[] {"@", "[", "`", "{", ":", "/", "_"}) {
+            fault("adds" + sign + "1;", 1, 4);
+        }
         fault("adds 1x;", 1, 6);
         fault("adds if 1<>2 then 1 else 1 end;", 1, 10);
         fault("adds if 1==2 then 1 else 1 end;", 1, 10);
