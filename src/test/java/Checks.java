@@ -4,6 +4,8 @@ import java.nio.charset.StandardCharsets;
 final class Checks {
     private static int wrong = 0;
     private static int looked = 0;
+    // The case that is being run; its name stands ahead of what it says.
+    private static String running = "";
 
     private Checks() {
     }
@@ -13,13 +15,21 @@ final class Checks {
         if (got != want) {
             wrong++;
             if (wrong <= 50) {
-                System.out.println(call + " answered " + got + ", due is " + want);
+                System.out.println(running + call + " answered " + got + ", due is " + want);
             }
         }
     }
 
     static void due(String call, boolean got, boolean want) {
         due(call, got ? 1 : 0, want ? 1 : 0);
+    }
+
+    static void due(String call, boolean got) {
+        due(call, got, true);
+    }
+
+    static void running(String name) {
+        running = name.isEmpty() ? "" : name + ": ";
     }
 
     static void finish(String name) {
