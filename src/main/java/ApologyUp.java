@@ -1307,8 +1307,7 @@ public final class ApologyUp {
         private void findTokens(char[] tape, int length) {
             tokens = 0;
             int end = 0;
-            for (int at = 0; at < length; at = end) {
-                end = at + 1;
+            for (int at = 0; at < length; at = Math.max(end, at + 1)) {
                 if (tape[at] == ' ' || tape[at] == '\n') {
                     continue;
                 }

@@ -44,9 +44,11 @@ public final class LanguageTest {
             Checks.due(c + " isn't public", Modifier.isPublic(c.getModifiers()) || Modifier.isProtected(c.getModifiers()),
                     false);
             members(c);
+            privateNames(c);
         }
         members(ApologyUp.class);
         methodLengths(code);
+        loopEnds(code);
         Checks.finish("LanguageTest");
     }
 
@@ -85,6 +87,32 @@ public final class LanguageTest {
         Checks.due(c + " has more than twenty fields", fields > 20, false);
         for (Method m : c.getDeclaredMethods()) {
             Checks.due(m + " has more than seven parameters", m.getParameterCount() > 7, false);
+        }
+    }
+
+    /** Rule 1 is kept in the classes inside, too: none of their methods has a name of the face. */
+    private static void privateNames(Class<?> c) {
+        for (Method m : c.getDeclaredMethods()) {
+            Checks.due(m + " has a public one's name", METHODS.contains(m.getName()) || LATER_METHODS.contains(m.getName()),
+                    false);
+        }
+    }
+
+    /** Rule 9: a for counts on by one at least as its own line tells, and a while by its only line. */
+    private static void loopEnds(String code) {
+        Matcher each = Pattern.compile("\\bfor \\(int (\\w+) = [^;]*; [^;]*\\b\\1\\b[^;]*; (.*)\\) \\{").matcher(code);
+        int told = 0;
+        while (each.find()) {
+            told++;
+            String by = each.group(1);
+            Checks.due("a loop's end can't be seen: " + each.group(),
+                    each.group(2).matches(by + "(\\+\\+|--| -= \\d+| = Math\\.max\\(\\w+, " + by + " \\+ 1\\))"), true);
+        }
+        Checks.due("loops whose end was looked at", told, Pattern.compile("\\bfor\\b").matcher(code).results().count());
+        Matcher other = Pattern.compile("\\b(while|do)\\b[^\\n]*\\n[^\\n]*").matcher(code);
+        while (other.find()) {
+            Checks.due("a loop's end can't be seen: " + other.group(),
+                    other.group().matches("while \\((\\w+) < \\w+ && [^\\n]*\\n *\\1\\+\\+;"), true);
         }
     }
 
